@@ -83,6 +83,61 @@ final class PlanTest {
         totalIs(school, 0, 1, 0.25f);
     }
 
+    /** Every row comes to the same TOTAL, whatever was planned for others ahead of it. */
+    static void p30_whereNothingGrowsTheLowestFormStays() {
+        TongueSchool school = Schools.with(2, 2);
+        school.transfer(0, 0, 1);
+        school.transfer(0, 1, 1);
+        for (int form = 0; form < 2; form++) {
+            for (int time = 0; time < 180; time++) {
+                school.correct(0, form, TongueSchool.EXPLICIT);
+            }
+            for (int time = 0; time < 3; time++) {
+                school.lesson(0, form);
+            }
+            Check.bits("strength", 1f, school.strength(0, form));
+            school.keep(0);
+            school.pass(1);
+            school.back(0);
+        }
+        planIs(school, 1, 0, 0, 1);
+        planIs(school, 0, 0, 0, 0);
+        totalIs(school, 0, 3, 2f);
+        school.correct(1, 0, TongueSchool.EXPLICIT);
+        planIs(school, 1, 1);
+        planIs(school, 0, 0);
+        totalIs(school, 0, 1, 2f);
+    }
+
+    /** Near 1f the gains are so small that only the floats of the sum decide what is greatest. */
+    static void p30_totalsAreComparedAsFloats() {
+        TongueSchool school = Schools.with(3, 1);
+        school.transfer(0, 0, 1);
+        for (int form = 0; form < 3; form++) {
+            for (int time = 0; time < 120; time++) {
+                school.correct(0, form, TongueSchool.EXPLICIT);
+            }
+        }
+        float[] strengths = new float[3];
+        for (int form = 0; form < 3; form++) {
+            strengths[form] = Float.intBitsToFloat(school.strength(0, form));
+        }
+        float best = -1f;
+        int bestForm = TongueSchool.NONE;
+        for (int form = 0; form < 3; form++) {
+            float before = strengths[form];
+            strengths[form] = Schools.grown(before, form == 0 ? 0.5f : 0.25f);
+            float sum = 0f + strengths[0] + strengths[1] + strengths[2];
+            strengths[form] = before;
+            if (sum > best) {
+                best = sum;
+                bestForm = form;
+            }
+        }
+        planIs(school, 0, bestForm);
+        totalIs(school, 0, 1, best);
+    }
+
     static void p30_withoutFormsThereIsNone() {
         TongueSchool school = Schools.with(0, 1);
         planIs(school, 0, -1);
@@ -183,6 +238,18 @@ final class PlanTest {
         Check.badArgument(school, () -> school.totalAnew(0, 4));
         Check.badArgument(school, () -> school.totalAnew(0, Integer.MIN_VALUE));
         Check.badArgument(school, () -> school.totalAnew(0, Integer.MAX_VALUE));
+    }
+
+    static void p32_totalAnewNeedsNoOtherCallAheadOfIt() {
+        TongueSchool school = Schools.with(2, 2);
+        school.transfer(0, 1, 1);
+        Check.bits("one lesson", 0.5f, school.totalAnew(0, 1));
+        Check.bits("two lessons", 0.75f, school.totalAnew(0, 2));
+        Check.bits("three lessons", 1f, school.totalAnew(0, 3));
+        school.lesson(0, 1);
+        school.transfer(0, 1, -1);
+        Check.bits("as it is then", 0.75f, school.totalAnew(0, 1));
+        Check.bits("of another LEARNER", 0.25f, school.totalAnew(1, 1));
     }
 
     static void p32_totalAnewIsTheSameOfAFullSchool() {

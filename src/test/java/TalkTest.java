@@ -232,6 +232,10 @@ final class TalkTest {
         school.pass(1);
         school.correct(0, 0, TongueSchool.EXPLICIT);
         Check.same("HUSHED", false, school.isHushed(0));
+        school.correct(0, 0, TongueSchool.EXPLICIT);
+        Check.same("upset twice on the new day", false, school.isHushed(0));
+        school.correct(0, 0, TongueSchool.EXPLICIT);
+        Check.same("upset three times on the new day", true, school.isHushed(0));
         Check.noSuch(school, () -> school.isHushed(1));
         Check.noSuch(school, () -> school.isHushed(-1));
         Check.noSuch(school, () -> school.isHushed(Integer.MAX_VALUE));
