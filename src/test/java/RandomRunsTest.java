@@ -43,13 +43,15 @@ final class RandomRunsTest {
 
     static void runs_ofTalkAndCorrectionsAgree() {
         for (int seed = 2000; seed < 2200; seed++) {
-            run(new Random(seed), 1 + seed % 4, 10, 3, "talk", "correct", "lesson", "pass", "cause", "forms");
+            run(new Random(seed), 1 + seed % 4, 10, 3,
+                    "talk", "talk", "talk", "correct", "correct", "correct", "lesson", "lesson", "pass", "cause", "forms");
         }
     }
 
     static void runs_ofTextsNotesAndGroupsAgree() {
         for (int seed = 3000; seed < 3150; seed++) {
-            run(new Random(seed), 2 + seed % 8, 10, 3, "read", "next", "keep", "back", "abroad", "group", "cost", "pass", "lesson");
+            run(new Random(seed), 2 + seed % 8, 10, 3,
+                    "read", "next", "keep", "back", "abroad", "group", "cost", "pass", "lesson", "lesson");
         }
     }
 
@@ -72,7 +74,7 @@ final class RandomRunsTest {
         List<String> told = new ArrayList<>();
         for (int call = 0; call < CALLS; call++) {
             Method method = choose(random, call, forms, rest, liked);
-            Object[] args = arguments(random, method, oddity);
+            Object[] args = arguments(random, slow, method, oddity);
             String due = answer(slow, method, args);
             String got = answer(fast, method, args);
             told.add(method.getName() + Arrays.toString(args) + " = " + got);
@@ -107,7 +109,7 @@ final class RandomRunsTest {
         throw new AssertionError(name);
     }
 
-    private static Object[] arguments(Random random, Method method, int oddity) {
+    private static Object[] arguments(Random random, SlowSchool slow, Method method, int oddity) {
         Object[] args = new Object[method.getParameterCount()];
         for (int place = 0; place < args.length; place++) {
             if (method.getParameterTypes()[place] == boolean.class) {
@@ -115,54 +117,69 @@ final class RandomRunsTest {
             } else if (random.nextInt(1000) < oddity) {
                 args[place] = ENDS[random.nextInt(ENDS.length)];
             } else {
-                args[place] = ordinary(random, method.getName(), place);
+                args[place] = ordinary(random, slow, method.getName(), place);
             }
         }
         return args;
     }
 
+    /** What stands for a count that only the school knows. */
+    private static final int A_FORM = -1, SOME_FORMS = -2, A_LEARNER = -3, SOME_LEARNERS = -4, A_TEXT = -5;
     private static final Map<String, int[]> BOUNDS = bounds();
 
-    /** For each call, of each number the least and how many there are; -1 asks for a set of FORMS. */
+    /** For each call, of each number the least and how many there are. */
     private static Map<String, int[]> bounds() {
         Map<String, int[]> bounds = new HashMap<>();
-        bounds.put("form", new int[] {0, -1});
-        bounds.put("transfer", new int[] {0, 4, 0, 12, -1, 3});
+        bounds.put("form", new int[] {0, SOME_FORMS});
+        bounds.put("transfer", new int[] {0, 4, 0, A_FORM, -1, 3});
         bounds.put("learner", new int[] {0, 4});
-        bounds.put("lesson", new int[] {0, 4, 0, 9});
-        bounds.put("pass", new int[] {1, 5});
-        bounds.put("talk", new int[] {0, 4, 0, -1});
-        bounds.put("correct", new int[] {0, 4, 0, 8, 0, 3});
-        bounds.put("abroad", new int[] {0, 4, 0, 10});
-        bounds.put("text", new int[] {0, -1});
-        bounds.put("read", new int[] {0, 4, 0, 10});
+        bounds.put("lesson", new int[] {0, A_LEARNER, 0, A_FORM});
+        bounds.put("pass", new int[] {1, 3});
+        bounds.put("talk", new int[] {0, A_LEARNER, 0, SOME_FORMS});
+        bounds.put("correct", new int[] {0, A_LEARNER, 0, A_FORM, 0, 3});
+        bounds.put("abroad", new int[] {0, A_LEARNER, 0, 10});
+        bounds.put("text", new int[] {0, SOME_FORMS});
+        bounds.put("read", new int[] {0, A_LEARNER, 0, A_TEXT});
         bounds.put("shelf", new int[] {0, 3});
-        bounds.put("put", new int[] {0, 4, 0, 5, 0, 2, 0, 9});
+        bounds.put("put", new int[] {0, 4, 0, 5, 0, 2, 0, A_TEXT});
         bounds.put("item", new int[] {-20, 41});
         bounds.put("at", new int[] {0, 4, 0, 5});
         bounds.put("difficulty", new int[] {0, 12});
-        bounds.put("strength", new int[] {0, 4, 0, 12});
-        bounds.put("cause", new int[] {0, 4, 0, 9});
-        bounds.put("forms", new int[] {0, 4, 0, 4});
-        bounds.put("group", new int[] {0, 64});
-        bounds.put("cost", new int[] {0, 64});
-        bounds.put("plan", new int[] {0, 4, 1, 3, 0, 3});
-        bounds.put("total", new int[] {0, 4, 1, 3});
-        bounds.put("totalAnew", new int[] {0, 4, 1, 3});
+        bounds.put("strength", new int[] {0, A_LEARNER, 0, A_FORM});
+        bounds.put("cause", new int[] {0, A_LEARNER, 0, A_FORM});
+        bounds.put("forms", new int[] {0, A_LEARNER, 0, 4});
+        bounds.put("group", new int[] {0, SOME_LEARNERS});
+        bounds.put("cost", new int[] {0, SOME_LEARNERS});
+        bounds.put("plan", new int[] {0, A_LEARNER, 1, 3, 0, 3});
+        bounds.put("total", new int[] {0, A_LEARNER, 1, 3});
+        bounds.put("totalAnew", new int[] {0, A_LEARNER, 1, 3});
         return bounds;
     }
 
-    private static int ordinary(Random random, String call, int place) {
-        int[] bounds = BOUNDS.getOrDefault(call, new int[] {0, 5});
-        int least = bounds[2 * place];
+    private static int ordinary(Random random, SlowSchool slow, String call, int place) {
+        int[] bounds = BOUNDS.getOrDefault(call, new int[] {0, A_LEARNER});
         int count = bounds[2 * place + 1];
-        if (count > 0) {
-            return least + random.nextInt(count);
+        switch (count) {
+            case A_FORM:
+                return random.nextInt(Math.max(1, slow.formCount()));
+            case SOME_FORMS:
+                return fewOf(random, slow.formCount());
+            case A_LEARNER:
+                return random.nextInt(Math.max(1, slow.learnerCount()));
+            case SOME_LEARNERS:
+                return random.nextInt(1 << slow.learnerCount());
+            case A_TEXT:
+                return random.nextInt(Math.max(1, slow.textCount()));
+            default:
+                return bounds[2 * place] + random.nextInt(count);
         }
+    }
+
+    private static int fewOf(Random random, int count) {
         int set = 0;
         int members = random.nextInt(4);
-        for (int time = 0; time < members; time++) {
-            set |= 1 << random.nextInt(1 + random.nextInt(8));
+        for (int time = 0; time < members && count > 0; time++) {
+            set |= 1 << random.nextInt(count);
         }
         return set;
     }

@@ -39,6 +39,18 @@ final class SlowSchool {
     private final List<Float> items = new ArrayList<>();
     private int day = 0;
 
+    int formCount() {
+        return needs.size();
+    }
+
+    int learnerCount() {
+        return pupils.size();
+    }
+
+    int textCount() {
+        return texts.size();
+    }
+
     private static Set<Integer> setOf(int bits) {
         Set<Integer> set = new HashSet<>();
         for (int bit = 0; bit < 32; bit++) {
