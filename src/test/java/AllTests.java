@@ -15,7 +15,8 @@ public final class AllTests {
     private static final Class<?>[] CLASSES = {
         FormsLearnersTest.class, LessonsTest.class, TalkTest.class, CorrectTest.class, AbroadNotesTest.class,
         TextsTest.class, ShelvesTest.class, PlacementTest.class, LooksTest.class, GroupsTest.class, PlanTest.class,
-        RefusalsTest.class, DocumentTest.class, FaceTest.class, LanguageTest.class, RandomRunsTest.class,
+        ChangesTest.class, RefusalsTest.class, DocumentTest.class, ReadmeTest.class, FaceTest.class, LanguageTest.class,
+        RandomRunsTest.class,
     };
 
     private AllTests() {

@@ -19,9 +19,16 @@ final class Check {
         same(what, want ? 1 : 0, got ? 1 : 0);
     }
 
+    /** Tells the first line that differs, with its number. */
     static void same(String what, String want, String got) {
-        if (!want.equals(got)) {
-            throw new AssertionError(what + ": due is\n" + want + "\nanswered was\n" + got);
+        String[] due = want.split("\n");
+        String[] answered = got.split("\n");
+        for (int line = 0; line < Math.max(due.length, answered.length); line++) {
+            String one = line < due.length ? due[line] : "nothing more";
+            String other = line < answered.length ? answered[line] : "nothing more";
+            if (!one.equals(other)) {
+                throw new AssertionError(what + ", line " + line + ": due is '" + one + "', answered was '" + other + "'");
+            }
         }
     }
 

@@ -90,6 +90,35 @@ final class LanguageTest {
         }
     }
 
+    static void language_signsAreOfTheFirst127() throws IOException {
+        for (char sign : Files.readString(SOURCE).toCharArray()) {
+            Check.same("sign " + (int) sign, true, sign >= 1 && sign <= 127);
+        }
+    }
+
+    static void language_loopsHaveEndsAndTextsAreNotJoined() {
+        String code = code();
+        has(code, "while\\s*\\(\\s*true|for\\s*\\([^;]*;\\s*;", false);
+        has(code, "\"\"\\s*\\+|\\+=?\\s*\"\"", false);
+    }
+
+    static void language_fewClassesAndFields() {
+        Class<?>[] inside = TongueSchool.class.getDeclaredClasses();
+        Check.same("classes", true, inside.length < 12);
+        Check.same("fields of the school", true, fieldCount(TongueSchool.class) <= 20);
+        for (Class<?> each : inside) {
+            Check.same("fields of " + each, true, fieldCount(each) <= 20);
+        }
+    }
+
+    private static int fieldCount(Class<?> of) {
+        int count = 0;
+        for (Field field : of.getDeclaredFields()) {
+            count += Modifier.isStatic(field.getModifiers()) ? 0 : 1;
+        }
+        return count;
+    }
+
     static void language_atMostSevenParameters() {
         for (Method method : TongueSchool.class.getDeclaredMethods()) {
             Check.same(method + " takes few", true, method.getParameterCount() <= 7);

@@ -11,8 +11,9 @@ final class LaterCalls {
     private static final int LEARNERS = 6, FORMS = 12, TEXTS = 10, SHELVES = 4, PLACES = 5, ITEMS = 12, TONGUES = 4;
     private static final List<Consumer<LaterCalls>> RUNS = List.of(
             LaterCalls::looks, LaterCalls::groupsAndPlans, LaterCalls::transfersAndPlaces, LaterCalls::additions,
-            LaterCalls::lessons, LaterCalls::talk, LaterCalls::talkOnTheNextDay, LaterCalls::corrections,
-            LaterCalls::upsets, LaterCalls::notes, LaterCalls::reading, LaterCalls::answers, LaterCalls::needs);
+            LaterCalls::lessons, LaterCalls::talk, LaterCalls::talkOnTheNextDay, LaterCalls::talkOfWhatIsForgotten,
+            LaterCalls::corrections, LaterCalls::upsets, LaterCalls::notes, LaterCalls::reading, LaterCalls::answers,
+            LaterCalls::needs);
 
     private final School school;
     private final StringBuilder told = new StringBuilder();
@@ -36,20 +37,32 @@ final class LaterCalls {
         }
     }
 
+    /** All that is told of a school is what the SlowSchool tells behind the same calls. */
+    static void showThatOfTheSlowSchool(School school) {
+        for (Consumer<LaterCalls> run : RUNS) {
+            String slow = told(run, school.againAsSlowSchool());
+            Check.same("later calls", slow, told(run, school.again()));
+        }
+    }
+
     private static String told(Consumer<LaterCalls> run, School school) {
         LaterCalls calls = new LaterCalls(school);
         run.accept(calls);
         return calls.told.toString();
     }
 
-    private void tell(String call, IntSupplier answer) {
+    /** Returns what is answered, 0 if nothing is. */
+    private int tell(String call, IntSupplier answer) {
+        int answered = 0;
         told.append(call).append(' ');
         try {
-            told.append(answer.getAsInt());
+            answered = answer.getAsInt();
+            told.append(answered);
         } catch (RuntimeException e) {
             told.append(e.getClass().getName());
         }
         told.append('\n');
+        return answered;
     }
 
     private static void each(int count, IntConsumer body) {
@@ -134,6 +147,11 @@ final class LaterCalls {
         talk();
     }
 
+    private void talkOfWhatIsForgotten() {
+        tell("pass", () -> school.pass(30));
+        talk();
+    }
+
     private void corrections() {
         each(LEARNERS, learner -> each(2, time -> {
             each(FORMS, form -> tell("correct", () -> school.correct(learner, form, TongueSchool.EXPLICIT)));
@@ -172,10 +190,10 @@ final class LaterCalls {
 
     /** One LEARNER comes to know one FORM behind the other; what is READY tells the NEEDS. */
     private void needs() {
-        tell("learner", () -> school.learner(0));
+        int learner = tell("learner", () -> school.learner(0));
         each(FORMS, form -> {
-            each(6, time -> tell("correct", () -> school.correct(0, form, TongueSchool.EXPLICIT)));
-            tell("forms", () -> school.forms(0, 1));
+            each(6, time -> tell("correct", () -> school.correct(learner, form, TongueSchool.EXPLICIT)));
+            tell("forms", () -> school.forms(learner, 1));
         });
     }
 }

@@ -296,7 +296,7 @@ final class PlanTest {
             for (int time = 0; time <= form; time++) {
                 school.correct(0, form, Schools.EXPLICIT);
             }
-            school.pass(1 + form);
+            school.pass(1 + 2 * form);
         }
         for (int form = 0; form < 12; form++) {
             strengths[form] = Schools.strength(school, 0, form);
@@ -305,11 +305,14 @@ final class PlanTest {
         strengths[first] = Schools.grown(strengths[first], 0.25f);
         float sum = 0f;
         float turned = 0f;
+        double exact = 0;
         for (int form = 0; form < 12; form++) {
             sum = sum + strengths[form];
             turned = turned + strengths[11 - form];
+            exact = exact + strengths[form];
         }
         Check.differ("the sum from the other end", sum, turned);
+        Check.differ("the sum of doubles", sum, (float) exact);
         totalIs(school, 0, 1, sum);
     }
 

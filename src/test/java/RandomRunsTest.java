@@ -1,8 +1,6 @@
-import java.lang.reflect.InvocationTargetException;
 import java.lang.reflect.Method;
 import java.util.ArrayList;
 import java.util.Arrays;
-import java.util.Comparator;
 import java.util.HashMap;
 import java.util.List;
 import java.util.Map;
@@ -13,20 +11,9 @@ final class RandomRunsTest {
     private static final int CALLS = 512;
     private static final int[] ENDS = {Integer.MIN_VALUE, Integer.MIN_VALUE + 1, -65, -64, -2, -1, 4, 5, 6, 10, 12, 13, 31,
         32, 64, 65, 4096, 1 << 30, Integer.MAX_VALUE - 1, Integer.MAX_VALUE};
-    private static final Method[] FAST = calls();
+    private static final List<Method> CALLS_OF_THE_FACE = Face.calls();
 
     private RandomRunsTest() {
-    }
-
-    private static Method[] calls() {
-        List<Method> calls = new ArrayList<>();
-        for (Method method : TongueSchool.class.getMethods()) {
-            if (method.getDeclaringClass() == TongueSchool.class) {
-                calls.add(method);
-            }
-        }
-        calls.sort(Comparator.comparing(Method::getName));
-        return calls.toArray(new Method[0]);
     }
 
     static void runs_agreeWithTheSlowSchool() {
@@ -124,11 +111,11 @@ final class RandomRunsTest {
         if (liked.length > 0 && random.nextInt(100) >= rest) {
             return named(liked[random.nextInt(liked.length)]);
         }
-        return FAST[random.nextInt(FAST.length)];
+        return CALLS_OF_THE_FACE.get(random.nextInt(CALLS_OF_THE_FACE.size()));
     }
 
     private static Method named(String name) {
-        for (Method method : FAST) {
+        for (Method method : CALLS_OF_THE_FACE) {
             if (method.getName().equals(name)) {
                 return method;
             }
@@ -211,14 +198,11 @@ final class RandomRunsTest {
         return set;
     }
 
-    private static String answer(Object school, Method fast, Object[] args) {
+    private static String answer(Object school, Method method, Object[] args) {
         try {
-            Method own = school.getClass().getDeclaredMethod(fast.getName(), fast.getParameterTypes());
-            return String.valueOf(own.invoke(school, args));
-        } catch (InvocationTargetException e) {
-            return e.getCause().getClass().getName();
-        } catch (ReflectiveOperationException e) {
-            throw new AssertionError(e);
+            return String.valueOf(Face.call(school, method.getName(), args));
+        } catch (RuntimeException e) {
+            return e.getClass().getName();
         }
     }
 }
